@@ -6,6 +6,7 @@ public final class FretsTest {
         promise1NewObject();
         promise2Fret();
         promise2FretAndStrings();
+        promise2NumbersOfAllStrings();
         promise3Level();
         promise3LevelAndStrings();
         promise4FretInfo();
@@ -98,6 +99,27 @@ public final class FretsTest {
         D.due("2: the open one goes on", x.stringInfo(0, 6) != 0 ? 1 : 0, 1);
         D.due("2: undo()", x.undo(), 3);
         D.due("2: as before", x.stringInfo(2, 7), sum);
+    }
+
+    private static void promise2NumbersOfAllStrings() {
+        FrettedStrings x = new FrettedStrings();
+        x.fret(1000, 1500);
+        x.fret(1500, 1500);
+        for (int string = 0; string < 4; string++) {
+            x.press(string, 1 + string / 2);
+        }
+        D.due("4: pressed at 1", x.fretInfo(1, 3), 3);
+        D.due("4: pressed at 2", x.fretInfo(2, 3), 12);
+        D.due("2: a fret between", x.fret(1200, 0), 2);
+        for (int string = 0; string < 4; string++) {
+            D.due("2: the string " + string, x.stringInfo(string, 1), 1 + string / 2 * 2);
+            D.due("2: sounds from", x.stringInfo(string, 2), 1 + string / 2 * 2);
+        }
+        D.due("4: sounding from 1", x.fretInfo(1, 4), 3);
+        D.due("4: sounding from 3", x.fretInfo(3, 4), 12);
+        D.due("2: a fret ahead", x.fret(1, 0), 1);
+        D.due("2: the string 0", x.stringInfo(0, 1), 2);
+        D.due("2: the string 3", x.stringInfo(3, 1), 4);
     }
 
     private static void promise3Level() {

@@ -157,6 +157,11 @@ public final class StringsTest {
         D.due("10: damp(0)", x.damp(0), 0);
         D.due("10: four changes", x.count(12), 4);
         D.due("10: plucks stay", x.stringInfo(0, 8), 1);
+        x.pluck(0, 2519, 1000);
+        D.due("10: damp(0) of all modes", x.damp(0), 12);
+        for (int mode = 1; mode <= 12; mode++) {
+            D.due("10: modeInfo(0, " + mode + ", 0)", x.modeInfo(0, mode, 0), 0);
+        }
     }
 
     private static void promise11StringInfo() {
@@ -177,6 +182,10 @@ public final class StringsTest {
         for (int string : NO_STRING) {
             D.due("11: stringInfo(" + string + ", 0)", x.stringInfo(string, 0), -1);
         }
+        x.pluck(1, 2519, 1000);
+        // 396 each
+        D.due("11: the sum of all twelve", x.stringInfo(1, 7), 4752);
+        D.due("11: all twelve are heard", x.stringInfo(1, 6), 4095);
         x.set(4, 71429);
         D.due("11: what is heard", x.stringInfo(2, 6), 21);
         x.set(4, 0);

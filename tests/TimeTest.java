@@ -68,6 +68,16 @@ public final class TimeTest {
         // 494 - 4 - 1, then 489 - 4 - 1.
         x.run(2);
         D.due("16: two more", x.modeInfo(0, 1, 0), 484);
+        // 1000 * 1 * 1000 / 2520 is 396 for each mode, and the loss of the mode n is 10 + 5 * (n - 1) thousandths.
+        int[] left = {392, 390, 388, 386, 384, 382, 380, 378, 376, 374, 372, 370};
+        for (int string = 1; string < 3; string++) {
+            x.pluck(string, 2519, 1000);
+        }
+        x.run(1);
+        for (int mode = 1; mode <= 12; mode++) {
+            D.due("16: the mode " + mode, x.modeInfo(1, mode, 0), left[mode - 1]);
+            D.due("16: the mode " + mode, x.modeInfo(2, mode, 0), left[mode - 1]);
+        }
     }
 
     private static void promise16Loss() {
@@ -288,6 +298,7 @@ public final class TimeTest {
         D.due("19: of those that are heard", x.slowest(0, 1, 2), 11);
         x.damp(0);
         D.due("19: damped", x.slowest(0, 1, 0), -4);
+        slowestEdges();
         FrettedStrings y = new FrettedStrings();
         y.tune(0, 2520000);
         y.tune(1, 2520000);
@@ -296,6 +307,22 @@ public final class TimeTest {
         D.due("19: the odd ones of the same pitch", y.slowest(0, 1, 0), 2000);
         D.due("19: the lowest mode of a", y.slowest(0, 1, 1), 1);
         D.due("19: then that of b", y.slowest(0, 1, 2), 3);
+    }
+
+    private static void slowestEdges() {
+        FrettedStrings x = new FrettedStrings();
+        x.pluck(2, 2519, 1000);
+        x.pluck(3, 2519, 1000);
+        // 10 .. 120 and 1319 .. 15828: the nearest are the modes 12 and 1.
+        x.tune(2, 25200);
+        x.tune(3, 3323880);
+        D.due("19: slowest(2, 3, 0)", x.slowest(2, 3, 0), 1199);
+        D.due("19: slowest(2, 3, 1)", x.slowest(2, 3, 1), 12);
+        D.due("19: slowest(2, 3, 2)", x.slowest(2, 3, 2), 1);
+        D.due("19: slowest(3, 2, 2)", x.slowest(3, 2, 2), 12);
+        x.tune(3, 305000);
+        // 121 and 120
+        D.due("19: a beat of 1", x.slowest(2, 3, 0), 1);
     }
 
     private static void promise20Played() {

@@ -588,19 +588,17 @@ public final class FrettedStrings {
         }
 
         int maskPressedAt(int fret) {
-            int mask = 0;
-            for (int string = 0; string < STRINGS; string++) {
-                if (pressed[string] == fret) {
-                    mask |= 1 << string;
-                }
-            }
-            return mask;
+            return maskOf(pressed, fret);
         }
 
         int maskSoundingFrom(int fret) {
+            return maskOf(source, fret);
+        }
+
+        private static int maskOf(int[] fretsOfStrings, int fret) {
             int mask = 0;
-            for (int string = 0; string < STRINGS; string++) {
-                if (source[string] == fret) {
+            for (int string = 0; string < fretsOfStrings.length; string++) {
+                if (fretsOfStrings[string] == fret) {
                     mask |= 1 << string;
                 }
             }
