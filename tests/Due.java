@@ -11,14 +11,14 @@ final class Due {
         }
     }
 
-    void type(FrettedStrings x, String text) {
+    void type(Instrument x, String text) {
         for (int i = 0; i < text.length(); i++) {
             x.type(text.charAt(i));
         }
     }
 
     /** The text anew. */
-    void retype(FrettedStrings x, String text) {
+    void retype(Instrument x, String text) {
         x.clearText();
         type(x, text);
     }

@@ -24,6 +24,9 @@ public final class FaceTest {
 
     private static final char[] NOTE = {'0', ':', '0', '!', '9', '+', '1', ';'};
 
+    /** Of some 33 calls each, which are fewer than 512. */
+    private static final int ROUNDS = 14;
+
     private static int wrong;
 
     public static void main(String[] args) throws Exception {
@@ -122,13 +125,18 @@ public final class FaceTest {
     private static void callsMakeNoObjects() {
         com.sun.management.ThreadMXBean bean =
             (com.sun.management.ThreadMXBean) java.lang.management.ManagementFactory.getThreadMXBean();
-        FrettedStrings x = new FrettedStrings();
+        FrettedStrings[] objects = new FrettedStrings[200];
+        for (int i = 0; i < objects.length; i++) {
+            objects[i] = new FrettedStrings();
+        }
         long id = Thread.currentThread().getId();
-        callAll(x, 10);
+        callAll(objects[0], ROUNDS);
         long before = bean.getThreadAllocatedBytes(id);
-        callAll(x, 2000);
+        for (int i = 1; i < objects.length; i++) {
+            callAll(objects[i], ROUNDS);
+        }
         long made = bean.getThreadAllocatedBytes(id) - before;
-        need(made < 20000, "2000 rounds of calls made " + made + " bytes");
+        need(made < 20000, "the calls of 199 objects made " + made + " bytes");
     }
 
     private static void callAll(FrettedStrings x, int rounds) {

@@ -7,19 +7,23 @@ public final class FretsTest {
         promise2Fret();
         promise2FretAndStrings();
         promise2NumbersOfAllStrings();
+        promise2JustBesideAString();
         promise3Level();
         promise3LevelAndStrings();
         promise4FretInfo();
         promise4MostInTheWay();
         promise4RoundedDown();
         promise5MostFor();
+        promise5AllOthersAsTheyAre();
         wearByPlucks();
         wearSilences();
         D.end();
     }
 
+    // "Creates four open strings that rest, without frets."
+
     private static void promise1NewObject() {
-        FrettedStrings x = new FrettedStrings();
+        Instrument x = new Instrument();
         int[] counts = {0, 0, 0, 0, 0, 0, 0, 10, 5, 500, 1000, 50, 0, 0};
         for (int what = 0; what < counts.length; what++) {
             D.due("1: count(" + what + ")", x.count(what), counts[what]);
@@ -38,12 +42,15 @@ public final class FretsTest {
         D.due("1: played(0, 0)", x.played(0, 0), -4);
         D.due("1: fault(0)", x.fault(0), -4);
         D.due("1: undo()", x.undo(), -2);
-        D.due("1: the other object is its own", new FrettedStrings().fret(5, 5), 1);
+        D.due("1: the other object is its own", new Instrument().fret(5, 5), 1);
         D.due("1: count(0) still", x.count(0), 0);
     }
 
+    // "position: 1 to 2400", "height: 0 to 2000", "NOT_POSSIBLE if there is one at this position; LIMIT_REACHED if
+    // there are 12"
+
     private static void promise2Fret() {
-        FrettedStrings x = new FrettedStrings();
+        Instrument x = new Instrument();
         D.due("2: fret(0, 10)", x.fret(0, 10), -1);
         D.due("2: fret(2401, 10)", x.fret(2401, 10), -1);
         D.due("2: fret(10, -1)", x.fret(10, -1), -1);
@@ -72,8 +79,10 @@ public final class FretsTest {
         D.due("2: fretInfo(13, 0)", x.fretInfo(13, 0), -1);
     }
 
+    // "Sets a fret in.", with strings that sound on or rest
+
     private static void promise2FretAndStrings() {
-        FrettedStrings x = new FrettedStrings();
+        Instrument x = new Instrument();
         x.fret(1000, 1000);
         x.press(2, 1);
         x.set(3, 1000000);
@@ -101,8 +110,10 @@ public final class FretsTest {
         D.due("2: as before", x.stringInfo(2, 7), sum);
     }
 
+    // "(The numbers of those behind it, also those at which strings are pressed, grow by 1.)"
+
     private static void promise2NumbersOfAllStrings() {
-        FrettedStrings x = new FrettedStrings();
+        Instrument x = new Instrument();
         x.fret(1000, 1500);
         x.fret(1500, 1500);
         for (int string = 0; string < 4; string++) {
@@ -122,8 +133,38 @@ public final class FretsTest {
         D.due("2: the string 3", x.stringInfo(3, 1), 4);
     }
 
+    private static void promise2JustBesideAString() {
+        for (int beside : new int[] {999, 1001}) {
+            Instrument x = new Instrument();
+            x.fret(1000, 1500);
+            x.fret(1002, 1500);
+            x.press(0, 1);
+            x.press(1, 2);
+            int first = beside < 1000 ? 2 : 1;
+            D.due("2: a fret at " + beside, x.fret(beside, 0), 3 - first);
+            D.due("2: the string at 1000", x.stringInfo(0, 1), first);
+            D.due("2: it sounds from", x.stringInfo(0, 2), first);
+            D.due("2: the string at 1002", x.stringInfo(1, 1), 3);
+            D.due("2: open strings stay open", x.stringInfo(2, 1) + x.stringInfo(3, 1), 0);
+            D.due("2: the mask", x.fretInfo(first, 3), 1);
+            D.due("2: the mask of the new one", x.fretInfo(3 - first, 3), 0);
+            x.undo();
+            D.due("2: undone", x.stringInfo(0, 1) * 10 + x.stringInfo(1, 1), 12);
+        }
+        Instrument x = new Instrument();
+        for (int fret = 1; fret <= 11; fret++) {
+            x.fret(200 * fret, 1500);
+        }
+        x.press(3, 11);
+        D.due("2: the 12th ahead of all", x.fret(1, 2000), 1);
+        D.due("2: the string moves to the last number", x.stringInfo(3, 1), 12);
+        D.due("2: its length", x.stringInfo(3, 4), 320);
+    }
+
+    // "Files a fret to a height, which is not above its own; its wear becomes 0."
+
     private static void promise3Level() {
-        FrettedStrings x = new FrettedStrings();
+        Instrument x = new Instrument();
         D.due("3: level(1, 0) without frets", x.level(1, 0), -1);
         x.fret(500, 900);
         D.due("3: level(0, 0)", x.level(0, 0), -1);
@@ -147,7 +188,7 @@ public final class FretsTest {
     }
 
     private static void promise3LevelAndStrings() {
-        FrettedStrings x = new FrettedStrings();
+        Instrument x = new Instrument();
         x.fret(1000, 1000);
         x.fret(1380, 1200);
         x.press(1, 1);
@@ -167,8 +208,10 @@ public final class FretsTest {
         D.due("3: it rests again", x.stringInfo(1, 7), 0);
     }
 
+    // "what: 0: its position; .. 5: the fret from which a string sounds that is pressed at it"
+
     private static void promise4FretInfo() {
-        FrettedStrings x = new FrettedStrings();
+        Instrument x = new Instrument();
         x.fret(1000, 1000);
         x.fret(1500, 1900);
         x.press(1, 1);
@@ -193,7 +236,7 @@ public final class FretsTest {
     }
 
     private static void promise4MostInTheWay() {
-        FrettedStrings x = new FrettedStrings();
+        Instrument x = new Instrument();
         x.fret(520, 1500);
         x.fret(1000, 1507);
         x.fret(1500, 1508);
@@ -213,13 +256,13 @@ public final class FretsTest {
 
     private static void promise4RoundedDown() {
         // 2000 + (-500) * 1 / 2519 is 1999 when rounded down, not 2000.
-        FrettedStrings x = new FrettedStrings();
+        Instrument x = new Instrument();
         x.fret(1, 2000);
         x.fret(2, 2000);
         D.due("4: in the way of a falling line", x.fretInfo(1, 5), 2);
         x.level(2, 1999);
         D.due("4: no more", x.fretInfo(1, 5), 1);
-        FrettedStrings y = new FrettedStrings();
+        Instrument y = new Instrument();
         y.fret(1, 0);
         y.fret(2, 1);
         // 0 + 1500 * 1 / 2519 is 0.
@@ -228,8 +271,11 @@ public final class FretsTest {
         D.due("4: no more", y.fretInfo(1, 5), 1);
     }
 
+    // "Returns the greatest height that a fret could have, so that it would not be in the way of a string that is
+    // pressed at any of the frets ahead of it", "0 to 2000"
+
     private static void promise5MostFor() {
-        FrettedStrings x = new FrettedStrings();
+        Instrument x = new Instrument();
         D.due("5: mostFor(1) without frets", x.mostFor(1), -1);
         x.fret(520, 1000);
         D.due("5: mostFor(1)", x.mostFor(1), 2000);
@@ -246,18 +292,45 @@ public final class FretsTest {
         D.due("5: in the way", x.fretInfo(2, 5), 3);
         D.due("5: level(3, 766)", x.level(3, 766), 1);
         D.due("5: not in the way", x.fretInfo(2, 5), 2);
-        FrettedStrings y = new FrettedStrings();
+        Instrument y = new Instrument();
         y.fret(1, 2000);
         y.fret(2, 0);
         D.due("5: rounded down", y.mostFor(2), 1999);
-        FrettedStrings z = new FrettedStrings();
+        Instrument z = new Instrument();
         z.fret(1, 0);
         z.fret(2, 0);
         D.due("5: rounded down to 0", z.mostFor(2), 0);
     }
 
+    // "all other frets being as they are"
+
+    private static void promise5AllOthersAsTheyAre() {
+        Instrument x = new Instrument();
+        x.fret(1000, 1500);
+        x.fret(1500, 1490);
+        x.fret(2000, 2000);
+        x.fret(2400, 2000);
+        // From 1500 at 1000 it is 1500; from 1490 at 1500, 1490 + 10 * 500 / 1020 = 1494.
+        D.due("5: the lowest of the lines", x.mostFor(3), 1494);
+        D.due("5: frets behind do not count", x.mostFor(1), 2000);
+        D.due("5: of the last one", x.mostFor(4), 1498);
+        D.due("5: its own height does not count", x.level(3, 0), 2000);
+        D.due("5: the same", x.mostFor(3), 1494);
+        // From 0 at 2000: 1500 * 400 / 520 is 1153.
+        D.due("5: of the one behind", x.mostFor(4), 1153);
+        x.undo();
+        D.due("5: filed to just above", x.level(3, 1495), 505);
+        D.due("5: is in the way", x.fretInfo(2, 5), 4);
+        x.level(4, 0);
+        D.due("5: is in the way of one", x.fretInfo(2, 5), 3);
+        D.due("5: not of the other", x.fretInfo(1, 5), 1);
+        x.level(3, 1494);
+        D.due("5: is in the way of none", x.fretInfo(2, 5), 2);
+        D.due("5: no change", x.count(12), 4);
+    }
+
     private static void wearByPlucks() {
-        FrettedStrings x = new FrettedStrings();
+        Instrument x = new Instrument();
         x.fret(1000, 1000);
         x.fret(1500, 1900);
         x.fret(2000, 2);
@@ -297,7 +370,7 @@ public final class FretsTest {
     }
 
     private static void wearSilences() {
-        FrettedStrings x = new FrettedStrings();
+        Instrument x = new Instrument();
         x.fret(1000, 1000);
         x.fret(1380, 1125);
         x.press(0, 1);

@@ -20,8 +20,10 @@ public final class StringsTest {
         D.end();
     }
 
+    // "Tunes a string; its amplitudes stay.", "tension: 1000 to 100000000", "Returns the previous tension"
+
     private static void promise6Tune() {
-        FrettedStrings x = new FrettedStrings();
+        Instrument x = new Instrument();
         for (int string : NO_STRING) {
             D.due("6: tune(" + string + ", 5000)", x.tune(string, 5000), -1);
         }
@@ -39,8 +41,10 @@ public final class StringsTest {
         D.due("6: three changes", x.count(12), 3);
     }
 
+    // "fret: number of a fret, or 0 for none", "Returns the sounding length then"
+
     private static void promise7Press() {
-        FrettedStrings x = new FrettedStrings();
+        Instrument x = new Instrument();
         for (int string : NO_STRING) {
             D.due("7: press(" + string + ", 0)", x.press(string, 0), -1);
         }
@@ -73,8 +77,10 @@ public final class StringsTest {
         D.due("7: an open one never buzzes", x.stringInfo(0, 3), 0);
     }
 
+    // "position: 1 to 2519, or 0 to take the finger away", "Returns the previous position, 0 if there was none"
+
     private static void promise8Touch() {
-        FrettedStrings x = new FrettedStrings();
+        Instrument x = new Instrument();
         for (int string : NO_STRING) {
             D.due("8: touch(" + string + ", 5)", x.touch(string, 5), -1);
         }
@@ -90,8 +96,10 @@ public final class StringsTest {
         D.due("8: four changes", x.count(12), 4);
     }
 
+    // "position: 1 to 2519", "force: 1 to 1000", "Returns the number of its modes that are heard then"
+
     private static void promise9Pluck() {
-        FrettedStrings x = new FrettedStrings();
+        Instrument x = new Instrument();
         for (int string : NO_STRING) {
             D.due("9: pluck(" + string + ", 5, 5)", x.pluck(string, 5, 5), -1);
         }
@@ -121,8 +129,10 @@ public final class StringsTest {
         D.due("9: plucks in all", x.count(5), 7);
     }
 
+    // "NOT_POSSIBLE if position is not above that from which it sounds"
+
     private static void promise9PluckOfAFret() {
-        FrettedStrings x = new FrettedStrings();
+        Instrument x = new Instrument();
         x.fret(1000, 1000);
         x.press(0, 1);
         D.due("9: pluck at the fret", x.pluck(0, 1000, 5), -2);
@@ -142,8 +152,10 @@ public final class StringsTest {
         D.due("9: at the hearing", x.pluck(0, 1001, 1000), 12);
     }
 
+    // "Makes all amplitudes of a string 0.", "Returns the number of its modes that were heard"
+
     private static void promise10Damp() {
-        FrettedStrings x = new FrettedStrings();
+        Instrument x = new Instrument();
         for (int string : NO_STRING) {
             D.due("10: damp(" + string + ")", x.damp(string), -1);
         }
@@ -164,8 +176,10 @@ public final class StringsTest {
         }
     }
 
+    // "what: 0: its tension; .. 8: how often it was plucked"
+
     private static void promise11StringInfo() {
-        FrettedStrings x = new FrettedStrings();
+        Instrument x = new Instrument();
         x.fret(1000, 1000);
         x.fret(1500, 1900);
         x.press(2, 1);
@@ -192,8 +206,10 @@ public final class StringsTest {
         D.due("11: rest is never heard", x.stringInfo(2, 6), 1365);
     }
 
+    // "what: 0: its amplitude; 1: its pitch", "mode: 1 to 12"
+
     private static void promise12ModeInfo() {
-        FrettedStrings x = new FrettedStrings();
+        Instrument x = new Instrument();
         D.due("12: modeInfo(0, 1, 1)", x.modeInfo(0, 1, 1), 396);
         D.due("12: modeInfo(0, 2, 1)", x.modeInfo(0, 2, 1), 793);
         D.due("12: modeInfo(3, 12, 1)", x.modeInfo(3, 12, 1), 11309);
@@ -213,26 +229,42 @@ public final class StringsTest {
         D.due("12: modeInfo(0, 1, 0)", x.modeInfo(0, 1, 0), 2500);
     }
 
+    /** A string that is pressed at a fret at the position, or open at 0. */
+    private static Instrument soundingFrom(int string, int position) {
+        Instrument x = new Instrument();
+        if (position > 0) {
+            x.fret(position, 900);
+            x.press(string, 1);
+        }
+        return x;
+    }
+
+    /** Whether a place is a node by the words of the terms. */
+    private static int isNode(int mode, int position, int place) {
+        return mode * (place - position) % (2520 - position) == 0 ? 1 : 0;
+    }
+
+    // "2: its nodes between the position from which the string sounds and the bridge (both left out) that are at
+    // whole positions"
+
     private static void promise12Nodes() {
-        FrettedStrings x = new FrettedStrings();
-        int[] positions = {0, 1, 20, 840, 1020, 2400};
+        int[] positions = {0, 1, 2, 20, 420, 840, 1020, 2399, 2400};
         for (int position : positions) {
-            if (position > 0) {
-                x.fret(position, 0);
-            }
-            x.press(0, position > 0 ? x.count(0) : 0);
+            Instrument x = soundingFrom(0, position);
             for (int mode = 1; mode <= 12; mode++) {
                 int nodes = 0;
                 for (int place = position + 1; place < 2520; place++) {
-                    nodes += mode * (place - position) % (2520 - position) == 0 ? 1 : 0;
+                    nodes += isNode(mode, position, place);
                 }
                 D.due("12: nodes of " + mode + " from " + position, x.modeInfo(0, mode, 2), nodes);
             }
         }
     }
 
+    // "Returns 1 if it has, otherwise 0; .. NOT_FOUND if position is not above that from which the string sounds."
+
     private static void promises13And14Node() {
-        FrettedStrings x = new FrettedStrings();
+        Instrument x = new Instrument();
         for (int string : NO_STRING) {
             D.due("13: node(" + string + ", 1, 1)", x.node(string, 1, 1), -1);
             D.due("14: nodeAgain(" + string + ", 1, 1)", x.nodeAgain(string, 1, 1), -1);
@@ -263,14 +295,18 @@ public final class StringsTest {
         D.due("13: no change", x.count(12), 2);
     }
 
+    // "Tells the same in a second way"
+
     private static void promises13And14Agree() {
         int[] positions = {0, 1, 20, 420, 840, 1025, 2399, 2400};
         for (int position : positions) {
-            FrettedStrings x = new FrettedStrings();
-            x.press(3, position > 0 ? x.fret(position, 900) : 0);
             for (int mode = 1; mode <= 12; mode++) {
+                Instrument x = soundingFrom(3, position);
                 for (int place = position + 1; place < 2520; place++) {
-                    int due = mode * (place - position) % (2520 - position) == 0 ? 1 : 0;
+                    if (x.callsLeft() < 2) {
+                        x = soundingFrom(3, position);
+                    }
+                    int due = isNode(mode, position, place);
                     D.due("13: node of " + mode + " at " + place, x.node(3, mode, place), due);
                     D.due("14: nodeAgain of " + mode + " at " + place, x.nodeAgain(3, mode, place), due);
                 }

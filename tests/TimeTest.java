@@ -10,6 +10,7 @@ public final class TimeTest {
         promise16Loss();
         promise16Fingers();
         promise16Limit();
+        promise16UpToTheLimit();
         promise17TicksTo();
         promise17Edges();
         promise18Beat();
@@ -17,13 +18,13 @@ public final class TimeTest {
         promise20Played();
         promise21Count();
         promise22Undo();
-        promise22EachChange();
-        promise22NoChange();
         D.end();
     }
 
+    // "what: 0 to 4", "value: a value in its range", "Returns the previous value"
+
     private static void promise15Set() {
-        FrettedStrings x = new FrettedStrings();
+        Instrument x = new Instrument();
         int[] least = {0, 0, 0, 1, 0};
         int[] most = {1000, 100, 1000, 1000000, 100000};
         int[] first = {10, 5, 500, 1000, 50};
@@ -45,8 +46,10 @@ public final class TimeTest {
         D.due("15: changes", x.count(12), 4);
     }
 
+    // "ticks: 1 to 500", "Returns the number of modes of all strings that are heard then"
+
     private static void promise16Run() {
-        FrettedStrings x = new FrettedStrings();
+        Instrument x = new Instrument();
         D.due("16: run(0)", x.run(0), -1);
         D.due("16: run(-1)", x.run(-1), -1);
         D.due("16: run(501)", x.run(501), -1);
@@ -81,7 +84,7 @@ public final class TimeTest {
     }
 
     private static void promise16Loss() {
-        FrettedStrings x = new FrettedStrings();
+        Instrument x = new Instrument();
         x.set(0, 0);
         x.set(1, 0);
         x.set(4, 1);
@@ -113,7 +116,7 @@ public final class TimeTest {
     }
 
     private static void promise16Fingers() {
-        FrettedStrings x = new FrettedStrings();
+        Instrument x = new Instrument();
         x.fret(1020, 1500);
         x.set(0, 0);
         x.set(1, 0);
@@ -158,8 +161,11 @@ public final class TimeTest {
         D.due("16: faded", x.modeInfo(0, 1, 0), 109);
     }
 
+    // "LIMIT_REACHED if there would be more than 100000 ticks in all"; "(whatever the ticks in all are)" of promise
+    // 17
+
     private static void promise16Limit() {
-        FrettedStrings x = new FrettedStrings();
+        Instrument x = new Instrument();
         for (int times = 0; times < 199; times++) {
             x.run(500);
         }
@@ -178,8 +184,26 @@ public final class TimeTest {
         D.due("17: whatever the ticks in all are", x.ticksTo(0, 1), 500);
     }
 
+    private static void promise16UpToTheLimit() {
+        // The ticks ahead, those of the call, and the answer.
+        int[][] rows = {{499, 500, -3}, {499, 499, 0}, {499, 498, 0}, {1, 1, 0}, {1, 2, -3}, {500, 500, 0}, {0, 1, -3}};
+        for (int[] row : rows) {
+            Instrument x = new Instrument();
+            for (int times = 0; times < 199; times++) {
+                x.run(500);
+            }
+            if (row[0] < 500) {
+                x.run(500 - row[0]);
+            }
+            D.due("16: " + row[1] + " ticks where " + row[0] + " are left", x.run(row[1]), row[2]);
+            D.due("16: ticks then", x.count(1), 100000 - row[0] + (row[2] == 0 ? row[1] : 0));
+        }
+    }
+
+    // "Tells after how many ticks a mode is not heard for the first time, if nothing else happens."
+
     private static void promise17TicksTo() {
-        FrettedStrings x = new FrettedStrings();
+        Instrument x = new Instrument();
         for (int string : NO_STRING) {
             D.due("17: ticksTo(" + string + ", 1)", x.ticksTo(string, 1), -1);
         }
@@ -211,8 +235,10 @@ public final class TimeTest {
         }
     }
 
+    // "0 if it is not heard now", "NOT_FOUND if it is heard behind 2000 ticks, too"
+
     private static void promise17Edges() {
-        FrettedStrings x = new FrettedStrings();
+        Instrument x = new Instrument();
         x.set(0, 0);
         x.set(1, 0);
         x.set(4, 500);
@@ -232,8 +258,10 @@ public final class TimeTest {
         D.due("17: a mode that rests", x.ticksTo(0, 2), 0);
     }
 
+    // "INVALID_ARGUMENT if an argument is out of range, or a is b; NOT_FOUND if they do not beat"
+
     private static void promise18Beat() {
-        FrettedStrings x = new FrettedStrings();
+        Instrument x = new Instrument();
         for (int string : NO_STRING) {
             D.due("18: beat(" + string + ", 1, 0, 1)", x.beat(string, 1, 0, 1), -1);
             D.due("18: beat(0, 1, " + string + ", 1)", x.beat(0, 1, string, 1), -1);
@@ -262,8 +290,11 @@ public final class TimeTest {
         D.due("18: of the same pitch, rounded", x.beat(0, 1, 1, 1), -4);
     }
 
+    // "that with the least difference, of several that with the lowest mode of a, then the lowest one of b",
+    // "NOT_FOUND if no modes of them beat"
+
     private static void promise19Slowest() {
-        FrettedStrings x = new FrettedStrings();
+        Instrument x = new Instrument();
         for (int string : NO_STRING) {
             D.due("19: slowest(" + string + ", 0, 0)", x.slowest(string, 0, 0), -1);
             D.due("19: slowest(0, " + string + ", 0)", x.slowest(0, string, 0), -1);
@@ -299,7 +330,7 @@ public final class TimeTest {
         x.damp(0);
         D.due("19: damped", x.slowest(0, 1, 0), -4);
         slowestEdges();
-        FrettedStrings y = new FrettedStrings();
+        Instrument y = new Instrument();
         y.tune(0, 2520000);
         y.tune(1, 2520000);
         y.pluck(0, 1260, 1000);
@@ -309,8 +340,10 @@ public final class TimeTest {
         D.due("19: then that of b", y.slowest(0, 1, 2), 3);
     }
 
+    // The first and the last modes of both
+
     private static void slowestEdges() {
-        FrettedStrings x = new FrettedStrings();
+        Instrument x = new Instrument();
         x.pluck(2, 2519, 1000);
         x.pluck(3, 2519, 1000);
         // 10 .. 120 and 1319 .. 15828: the nearest are the modes 12 and 1.
@@ -325,8 +358,11 @@ public final class TimeTest {
         D.due("19: a beat of 1", x.slowest(2, 3, 0), 1);
     }
 
+    // "a note is a string with the fret at which it was pressed when it was plucked (by its number then); notes are
+    // told in the order in which they were plucked first", "NOT_FOUND if there are not so many"
+
     private static void promise20Played() {
-        FrettedStrings x = new FrettedStrings();
+        Instrument x = new Instrument();
         D.due("20: played(-1, 0)", x.played(-1, 0), -1);
         D.due("20: played(0, -1)", x.played(0, -1), -1);
         D.due("20: played(0, 3)", x.played(0, 3), -1);
@@ -370,8 +406,10 @@ public final class TimeTest {
         playedAll();
     }
 
+    // As many notes as there can be
+
     private static void playedAll() {
-        FrettedStrings x = new FrettedStrings();
+        Instrument x = new Instrument();
         for (int fret = 1; fret <= 12; fret++) {
             x.fret(100 * fret, 0);
         }
@@ -390,8 +428,10 @@ public final class TimeTest {
         D.due("20: played(52, 0)", x.played(52, 0), -4);
     }
 
+    // "what: 0: frets; .. 13: the length of the text"
+
     private static void promise21Count() {
-        FrettedStrings x = new FrettedStrings();
+        Instrument x = new Instrument();
         D.due("21: count(-1)", x.count(-1), -1);
         D.due("21: count(14)", x.count(14), -1);
         D.due("21: count(min)", x.count(Integer.MIN_VALUE), -1);
@@ -427,8 +467,10 @@ public final class TimeTest {
         D.due("21: the text is not", x.count(13), 2);
     }
 
+    // "Restores the latest state of the history, which is removed from it.", "NOT_POSSIBLE if it is empty"
+
     private static void promise22Undo() {
-        FrettedStrings x = new FrettedStrings();
+        Instrument x = new Instrument();
         D.due("22: undo()", x.undo(), -2);
         for (int times = 1; times <= 6; times++) {
             x.tune(0, 1000 * times);
@@ -453,109 +495,5 @@ public final class TimeTest {
         D.due("22: the tension", x.stringInfo(0, 0), 5000);
         D.due("22: undo()", x.undo(), 1);
         D.due("22: the tension", x.stringInfo(0, 0), 3000);
-    }
-
-    private static void promise22EachChange() {
-        FrettedStrings x = new FrettedStrings();
-        x.fret(1000, 1000);
-        x.fret(1380, 1126);
-        x.press(0, 1);
-        x.pluck(0, 1500, 700);
-        x.touch(0, 1770);
-        D.due("22: text", x.type('0'), 1);
-        for (char character : ":2!900+9;".toCharArray()) {
-            x.type(character);
-        }
-        int[] before = look(x);
-        for (int change = 0; change < 10; change++) {
-            D.due("22: a change " + change, change(x, change) >= 0 ? 1 : 0, 1);
-            D.due("22: states", x.count(12), 4);
-            D.due("22: undo of the change " + change, x.undo(), 3);
-            int[] behind = look(x);
-            for (int i = 0; i < before.length; i++) {
-                D.due("22: what " + i + " is behind the undo of the change " + change, behind[i], before[i]);
-            }
-            // Sets the history full again.
-            x.damp(3);
-        }
-        D.due("22: the text stays", x.count(13), 10);
-    }
-
-    private static int change(FrettedStrings x, int change) {
-        switch (change) {
-            case 0:
-                return x.fret(1200, 2000);
-            case 1:
-                return x.level(2, 5);
-            case 2:
-                return x.tune(0, 4000);
-            case 3:
-                return x.press(0, 2);
-            case 4:
-                return x.touch(0, 5);
-            case 5:
-                return x.pluck(0, 2000, 900);
-            case 6:
-                return x.damp(0);
-            case 7:
-                return x.set(3, 7);
-            case 8:
-                return x.run(20);
-            default:
-                return x.play();
-        }
-    }
-
-    /** All that is to be seen but the text and the history. */
-    private static int[] look(FrettedStrings x) {
-        int[] seen = new int[300];
-        int size = 0;
-        for (int what = 0; what < 12; what++) {
-            seen[size++] = x.count(what);
-        }
-        for (int fret = 1; fret <= 3; fret++) {
-            for (int what = 0; what < 6; what++) {
-                seen[size++] = x.fretInfo(fret, what);
-            }
-        }
-        for (int string = 0; string < 4; string++) {
-            for (int what = 0; what < 9; what++) {
-                seen[size++] = x.stringInfo(string, what);
-            }
-            for (int mode = 1; mode <= 12; mode++) {
-                seen[size++] = x.modeInfo(string, mode, 0);
-            }
-        }
-        for (int index = 0; index < 4; index++) {
-            for (int what = 0; what < 3; what++) {
-                seen[size++] = x.played(index, what);
-            }
-        }
-        return seen;
-    }
-
-    private static void promise22NoChange() {
-        FrettedStrings x = new FrettedStrings();
-        x.fret(1000, 1000);
-        x.pluck(0, 1260, 100);
-        int states = x.count(12);
-        x.fretInfo(1, 0);
-        x.mostFor(1);
-        x.stringInfo(0, 0);
-        x.modeInfo(0, 1, 0);
-        x.node(0, 1, 1);
-        x.nodeAgain(0, 1, 1);
-        x.ticksTo(0, 1);
-        x.beat(0, 1, 1, 1);
-        x.slowest(0, 1, 0);
-        x.played(0, 0);
-        x.type('x');
-        x.fault(0);
-        x.play();
-        x.clearText();
-        x.fret(1000, 1);
-        x.level(1, 1001);
-        x.run(0);
-        D.due("22: no change, no state", x.count(12), states);
     }
 }
